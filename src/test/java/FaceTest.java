@@ -256,7 +256,61 @@ final class FaceTest {
         CHECK.index("9: the other face has none", () -> y.size(0));
     }
 
+    /** The least and the greatest numbers, wherever a number is told. */
+    private static void farNumbers() {
+        for (int far : new int[] {Integer.MIN_VALUE, Integer.MIN_VALUE + 1, Integer.MAX_VALUE, Integer.MAX_VALUE - 1}) {
+            Joinhand x = Check.with(10, 30);
+            CHECK.index("2: far", () -> x.useFace(far));
+            CHECK.index("3: far", () -> x.lookup(far, far, far, far, far));
+            CHECK.index("3: far", () -> x.lookup(0, far, far, far, far));
+            CHECK.argument("3: far", () -> x.lookup(0, 0, far, 0, 0));
+            CHECK.argument("3: far", () -> x.lookup(0, 0, 0, far, 0));
+            CHECK.argument("3: far", () -> x.lookup(0, 0, 0, 0, far));
+            for (int kind = 0; kind < 10; kind++) {
+                int its = kind;
+                x.lookup(kind, 0, 0, 0, 0);
+                CHECK.index("4: far", () -> x.rule(far, 0, 0, 0, 0, 0, 0));
+                CHECK.argument("4: far", () -> x.rule(its, far, 0, 0, 0, 0, 0));
+                CHECK.argument("4: far", () -> x.rule(its, 0, far, 0, 0, 0, 0));
+                CHECK.argument("4: far", () -> x.rule(its, 0, 0, far, 0, 0, 0));
+                CHECK.argument("4: far", () -> x.rule(its, 0, 0, 0, far, 0, 0));
+                CHECK.argument("4: far", () -> x.rule(its, 0, 0, 0, 0, far, 0));
+                CHECK.argument("4: far", () -> x.rule(its, 0, 0, 0, 0, 0, far));
+            }
+            CHECK.index("5: far", () -> x.setMark(far, far));
+            CHECK.argument("5: far", () -> x.setMark(0, far));
+            CHECK.index("6: far", () -> x.setGroup(far, 0));
+            CHECK.index("6: far", () -> x.setGroup(0, far));
+            CHECK.index("7: far", () -> x.setWidth(far, far));
+            CHECK.argument("7: far", () -> x.setWidth(0, far));
+            CHECK.argument("8: far", () -> x.lack(far) ? 1 : 0);
+            CHECK.index("9: far", () -> x.size(far));
+            CHECK.index("10: far", () -> x.insert(far, far));
+            CHECK.argument("10: far", () -> x.insert(0, far));
+            CHECK.index("11: far", () -> x.cut(far));
+            CHECK.argument("12: far", () -> x.setTongue(far));
+            CHECK.index("13: far", () -> x.setExtra(far, 0, far));
+            CHECK.index("13: far", () -> x.setExtra(0, far, far));
+            CHECK.argument("13: far", () -> x.setExtra(0, 0, far));
+            CHECK.index("15: far", () -> x.glyph(far));
+            CHECK.index("16: far", () -> x.glyphAnew(far));
+            CHECK.index("17: far", () -> x.cluster(far));
+            CHECK.index("18: far", () -> x.place(far, far));
+            CHECK.argument("18: far", () -> x.place(0, far));
+            CHECK.index("19: far", () -> x.form(far));
+            CHECK.index("20: far", () -> x.run(far));
+            CHECK.index("21: far", () -> x.caret(far));
+            CHECK.argument("22: far", () -> x.hit(far));
+            CHECK.index("23: far", () -> x.isSafe(far) ? 1 : 0);
+            CHECK.argument("24: far", () -> x.fill(far));
+            CHECK.index("25: far", () -> x.filling(far, far));
+            CHECK.argument("25: far", () -> x.filling(far, 0));
+            CHECK.glyphs("15: nothing was changed", x, 10, 30);
+        }
+    }
+
     public static void main(String[] args) {
+        farNumbers();
         newObject();
         useFace();
         lookups();

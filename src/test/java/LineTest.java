@@ -6,6 +6,11 @@ final class LineTest {
     private static void runs() {
         CHECK.runs("20: common signs alone", Check.with(0, 4, 2), 0, 0, 0);
         CHECK.runs("20: common signs at the beginning", Check.with(0, 4, 30, 1, 10, 3), 10, 10, 10, 10, 100, 100);
+        Joinhand shorter = Check.with(0, 9, 30);
+        CHECK.runs("20: by the first sign that is not common", shorter, 10, 10, 10);
+        shorter.cut(2);
+        CHECK.runs("20: which was cut", shorter, 0, 0);
+        CHECK.runs("20: figures are common", Check.with(30, 9, 4), 10, 10, 10);
         CHECK.runs("20: marks have a script", Check.with(21, 44, 20, 43), 0, 110, 200, 310);
         Joinhand x = Check.with(10, 0, 11, 30, 0, 31);
         CHECK.index("20: no place 6", () -> x.run(6));
@@ -146,6 +151,10 @@ final class LineTest {
         CHECK.fillings("25: no strokes", x, 77, 0, 0, 4, 0, 0, 0, 0, 3);
         x.useFace(1);
         x.setWidth(20, 5);
+        Joinhand other = Check.with(10, 16);
+        other.useFace(1);
+        other.setWidth(20, 100);
+        CHECK.is("24: strokes are those of the face 0", 4, () -> other.fill(54));
         CHECK.fillings("25: strokes are those of the face 0", x, 77, 0, 0, 4, 0, 0, 0, 0, 3);
         x.lack(10);
         x.lack(11);

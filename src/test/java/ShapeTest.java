@@ -133,6 +133,12 @@ final class ShapeTest {
         stages.lookup(Joinhand.LIGATURE, 0, 0, 0, 0);
         stages.rule(1, 40, 30, NONE, 102, 0, 0);
         CHECK.glyphs("15: a ligature came of its first one; stage 1 later", stages, 101, 102, 31);
+        Joinhand once = Check.with(30, 39, 31, 40);
+        once.lookup(Joinhand.SINGLE, 0, 0, 0, 0);
+        once.rule(0, 39, 110, 0, 0, 0, 0);
+        once.lookup(Joinhand.SINGLE, 0, 1, 0, 0);
+        once.rule(1, 110, 39, 0, 0, 0, 0);
+        CHECK.glyphs("15: not behind the stage 1", once, 40, 30, 39, 31);
         Joinhand still = Check.with(30, 39, 31, 40);
         still.lookup(Joinhand.SEVERAL, 0, 0, 0, 0);
         still.rule(0, 30, 30, 40, NONE, 0, 0);
@@ -180,6 +186,7 @@ final class ShapeTest {
         choice.setExtra(1, 1, 1);
         choice.setExtra(2, 2, 2);
         choice.setExtra(3, 3, 3);
+        choice.rule(0, 300, 15, 15, 15, 0, 0);
         CHECK.glyphs("15: CHOICE by EXTRA", choice, 4, 11, 12, 13);
         choice.lookup(Joinhand.SINGLE, Joinhand.EXTRA, 0, 0, 0);
         choice.rule(1, 300, 100, 0, 0, 0, 0);
@@ -233,6 +240,70 @@ final class ShapeTest {
         CHECK.is("17: the last one", 15, () -> many.cluster(1023));
         CHECK.is("18: the last one", 10240 - 10, () -> many.place(1023, 0));
         CHECK.index("15: behind the last one", () -> many.glyph(1024));
+    }
+
+    /** A row of 64 glyphs 4, made by the lookups 0 to 5; the lookup 6 is of the kind. */
+    private static Joinhand sixtyFour(int kind) {
+        Joinhand x = Check.with(4);
+        for (int i = 0; i < 6; i++) {
+            x.lookup(Joinhand.SEVERAL, 0, 0, 0, 0);
+            x.rule(i, 300, 4, 4, NONE, 0, 0);
+        }
+        x.lookup(kind, 0, 1, 0, 0);
+        return x;
+    }
+
+    private static void fullRowAndTable() {
+        int[][] notFitting = {
+            {5, 6, 0, 0, 0, 0}, {4, 6, 6, 6, 0, 0}, {4, 6, 6, 6, 0, 0}, {4, 4, 5, 6, 0, 0}, {NONE, 4, 4, 5, 0, 6},
+            {NONE, 4, 5, 6, 0, 0}, {4, 5, 9, 0, 0, 0}, {5, 9, 9, 0, 0, 0}, {4, NONE, 0, 9, 9, 0}, {4, 0, 9, 9, 0, 0},
+        };
+        for (int kind = 0; kind <= 9; kind++) {
+            Joinhand x = sixtyFour(kind);
+            int[] n = notFitting[kind];
+            for (int i = 0; i < 8; i++) x.rule(6, n[0], n[1], n[2], n[3], n[4], n[5]);
+            CHECK.is("14: 8 rules of the kind " + kind + " that do not fit", 64, x::glyphs);
+            for (int i = 0; i < 64; i++) {
+                int at = i;
+                CHECK.is("15: 8 rules of the kind " + kind + " that do not fit", 4, () -> x.glyph(at));
+                CHECK.is("16: 8 rules of the kind " + kind + " that do not fit", 4, () -> x.glyphAnew(at));
+                CHECK.is("18: 8 rules of the kind " + kind + " that do not fit", 10, () -> x.place(at, 2));
+                CHECK.is("18: 8 rules of the kind " + kind + " that do not fit", 0, () -> x.place(at, 1));
+            }
+            x.setMark(4, 3);
+            CHECK.is("18: marks alone, the kind " + kind, 0, () -> x.place(63, 1));
+            for (int i = 0; i < 5; i++) x.lookup(kind, 0, 0, 0, 0);
+            CHECK.is("14: a full face, the kind " + kind, 64, x::glyphs);
+        }
+        Joinhand ligature = sixtyFour(Joinhand.LIGATURE);
+        ligature.rule(6, 4, 4, 4, 2, 0, 0);
+        CHECK.glyphs("15: a full row, nearly all of it taken out", ligature, 4);
+        ligature.lookup(Joinhand.LIGATURE, 0, 0, 0, 0);
+        ligature.rule(7, 4, 4, NONE, 3, 0, 0);
+        CHECK.glyphs("15: a full row, all of it taken out", ligature);
+        Joinhand backward = sixtyFour(Joinhand.BACKWARD);
+        backward.rule(6, NONE, 4, 4, 5, 0, 0);
+        Joinhand pair = sixtyFour(Joinhand.PAIR);
+        pair.rule(6, 4, 4, 1, 0, 0, 0);
+        Joinhand cursive = sixtyFour(Joinhand.CURSIVE);
+        cursive.rule(6, 4, 1, 3, 0, 0, 0);
+        for (int i = 0; i < 64; i++) {
+            int at = i;
+            CHECK.is("15: a full row, BACKWARD", i % 2 == 0 ? 5 : 4, () -> backward.glyph(at));
+            CHECK.is("18: a full row, PAIR", i < 63 ? 11 : 10, () -> pair.place(at, 2));
+            CHECK.is("18: a full row, CURSIVE", 2 * i, () -> cursive.place(at, 1));
+        }
+        Joinhand vowels = Check.with(39, 31, 40);
+        for (int i = 0; i < 6; i++) {
+            vowels.lookup(Joinhand.SEVERAL, 0, 0, 0, 0);
+            vowels.rule(i, 40, 40, 40, NONE, 0, 0);
+        }
+        int[] due = new int[64];
+        java.util.Arrays.fill(due, 40);
+        due[0] = 64;
+        due[1] = 39;
+        due[63] = 31;
+        CHECK.glyphs("15: a full row, vowels set back", vowels, due);
     }
 
     private static void skips() {
@@ -365,6 +436,9 @@ final class ShapeTest {
         CHECK.glyphs("15: a ligature over the last item", calling(3, 0, 1, new int[] {NONE, 4, 21, NONE, 0}, new int[] {4, 6, NONE, 10}, 4, 21, 6, 7), 10, 21, 99);
         CHECK.glyphs("15: a ligature ahead of the last item", calling(3, 1, 0, both, new int[] {4, 21, NONE, 10}, 4, 21, 5, 7), 10, 5, 99);
         CHECK.glyphs("15: marks behind a ligature come next", calling(3, 2, 1, both, new int[] {4, 5, NONE, 10}, 4, 5, 21, 7), 10, 99, 99);
+        CHECK.glyphs("15: nothing is called where it would skip, behind the items", calling(0, 0, 1, new int[] {NONE, 4, 21, NONE, 1}, new int[] {300, 98, 0, 0}, 4, 21, 6), 4, 21, 99);
+        CHECK.glyphs("15: nor at the only one", calling(0, 0, 1, new int[] {NONE, 21, NONE, NONE, 0}, new int[] {300, 98, 0, 0}, 21, 6), 21, 99);
+        CHECK.glyphs("15: BACKWARD is not called, behind the items", calling(5, 0, 0, both, new int[] {NONE, 300, NONE, 98}, 4, 5, 6), 4, 5, 99);
         CHECK.glyphs("15: marks within a ligature are skipped", calling(3, 1, 1, both, new int[] {4, 5, NONE, 10}, 4, 21, 5, 7), 10, 21, 99);
     }
 
@@ -530,6 +604,11 @@ final class ShapeTest {
         alone.lookup(Joinhand.BASE, 0, 0, 0, 0);
         alone.rule(0, 300, NONE, 0, 1, 1, 0);
         alone.lookup(Joinhand.MARK, 0, 0, 0, 0);
+        alone.rule(1, 21, 1, 2, 2, 0, 0);
+        CHECK.places("18: no base, and no mark of the class", alone, 1, 0, 0, 1);
+        alone.insert(1, 23);
+        CHECK.places("18: no base, but marks", alone, 1, 0, 0, 0, 1);
+        alone.cut(1);
         alone.rule(1, 300, 0, 2, 2, 0, 0);
         CHECK.places("18: no base, and no mark right ahead", alone, 1, 0, 0, 1);
         Joinhand feature = Check.with(30, 44, 44);
@@ -598,6 +677,7 @@ final class ShapeTest {
         vowelsSetBack();
         simpleKinds();
         fullRow();
+        fullRowAndTable();
         skips();
         clustersMerge();
         contexts();

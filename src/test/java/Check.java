@@ -1,3 +1,10 @@
+import java.io.IOException;
+import java.io.UncheckedIOException;
+import java.nio.file.Files;
+import java.nio.file.Path;
+import java.util.ArrayList;
+import java.util.List;
+
 /** Counts the answers that are not due, and ends the program with 1 if there was one. */
 final class Check {
     interface Call {
@@ -6,6 +13,20 @@ final class Check {
 
     private int wrong = 0;
     private int asked = 0;
+    private final List<String> sentences = new ArrayList<>();
+    private final List<String> headings = new ArrayList<>();
+
+    /** The words of the document that the next answers are about. */
+    void says(String words) {
+        sentences.add(words);
+        headings.add("# Joinhand");
+    }
+
+    /** The words of a promise that the next answers are about. */
+    void promises(int number, String words) {
+        sentences.add(words);
+        headings.add("## Promise " + number + ":");
+    }
 
     void is(String what, long due, Call call) {
         asked++;
@@ -42,10 +63,31 @@ final class Check {
 
     void tell(String text) {
         wrong++;
-        if (wrong <= 50) System.out.println(text);
+        if (wrong > 50) return;
+        int last = sentences.size() - 1;
+        if (last >= 0) System.out.print(headings.get(last) + " \"" + sentences.get(last) + "\" ");
+        System.out.println(text);
+    }
+
+    /** A test must not go on holding what the document says no more. */
+    private void compareWithDocument() {
+        try {
+            String document = Files.readString(Path.of("../shared/DOC.md"));
+            for (int i = 0; i < sentences.size(); i++) {
+                String heading = headings.get(i);
+                int from = document.indexOf(heading);
+                int to = heading.startsWith("##") && from >= 0 ? document.indexOf("\n## ", from) : document.length();
+                if (from >= 0 && to >= 0 && document.substring(from, to).contains(sentences.get(i))) continue;
+                wrong++;
+                System.out.println("not in the document: " + heading + " " + sentences.get(i));
+            }
+        } catch (IOException e) {
+            throw new UncheckedIOException(e);
+        }
     }
 
     void end(String name) {
+        if (!sentences.isEmpty()) compareWithDocument();
         System.out.println(name + ": " + asked + " answers, " + wrong + " not as due");
         if (wrong != 0) System.exit(1);
     }
@@ -127,6 +169,35 @@ final class Check {
             int at = i;
             is(what + ": filling " + width + ", " + i, due[i], () -> x.filling(width, at));
         }
+    }
+
+    /** An answer of each kind: text, runs, glyphs, places, lines, and what the faces hold. */
+    static String all(Joinhand x) {
+        StringBuilder s = new StringBuilder();
+        int length = length(x);
+        for (int i = 0; i < length; i++) {
+            s.append(x.form(i)).append(' ').append(x.run(i)).append(' ').append(x.caret(i)).append(' ').append(x.filling(500, i)).append(';');
+            if (i > 0) s.append(x.isSafe(i));
+        }
+        s.append(x.fill(500)).append(' ').append(x.hit(15)).append('\n');
+        for (int i = 0; i < x.glyphs(); i++) {
+            s.append(x.glyph(i)).append(' ').append(x.glyphAnew(i)).append(' ').append(x.cluster(i)).append(' ');
+            for (int what = 0; what < 3; what++) s.append(x.place(i, what)).append(' ');
+        }
+        for (int i = 0; i < 12; i++) {
+            try {
+                s.append("size ").append(x.size(i)).append(' ');
+            } catch (IndexOutOfBoundsException e) {
+                break;
+            }
+        }
+        return s.toString();
+    }
+
+    void same(String what, String due, Joinhand x) {
+        asked++;
+        String got = all(x);
+        if (!got.equals(due)) tell(what + ": " + got + ", due is " + due);
     }
 
     /** Which places are safe, from 1 on. */

@@ -234,8 +234,12 @@ final class Model {
         return all(shape(text)).size();
     }
 
+    List<G> row() {
+        return all(shape(text));
+    }
+
     private G at(int place) {
-        List<G> all = all(shape(text));
+        List<G> all = row();
         if (place < 0 || place >= all.size()) throw new IndexOutOfBoundsException();
         return all.get(place);
     }

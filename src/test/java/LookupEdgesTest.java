@@ -136,6 +136,26 @@ final class LookupEdgesTest {
         }
     }
 
+    private static void farMarks() {
+        CHECK.says("A glyph of a face is a mark of a class, 0 to 3, or none");
+        for (int far : n(0, 255)) {
+            for (int its = 0; its < 4; its++) {
+                Joinhand x = Check.with(10, 4, 11, 4);
+                x.lookup(Joinhand.SINGLE, 0, 0, 0, 0);
+                x.rule(0, 4, far, 0, 0, 0, 0);
+                x.lookup(Joinhand.LIGATURE, 0, 0, 0, 1);
+                x.rule(1, 10, 11, NONE, 100, 0, 0);
+                x.lookup(Joinhand.BASE, 0, 0, 0, 0);
+                x.rule(2, 100, 0, its, 0, 10, 0);
+                x.rule(2, 100, 1, its, 0, 11, 0);
+                CHECK.glyphs("the glyph " + far + ", no mark", x, 10, far, 11, far);
+                x.setMark(far, its);
+                CHECK.glyphs("the glyph " + far + ", a mark", x, 100, far, far);
+                CHECK.places("the glyph " + far + " on its parts", x, 1, 0, 10, 11);
+            }
+        }
+    }
+
     private static void firstGroups() {
         CHECK.says("Each glyph of a face is in a group, 0 to 5, 0 at first.");
         Joinhand x = new Joinhand();
@@ -856,6 +876,7 @@ final class LookupEdgesTest {
         tongues();
         skips();
         firstMarks();
+        farMarks();
         firstGroups();
         items();
         single();

@@ -76,6 +76,10 @@ final class ModelTest {
         return chance(100) ? -51 + 102 * below(2) : below(41) - 20;
     }
 
+    private int markClass() {
+        return chance(8) ? below(4) : below(2);
+    }
+
     private List<Model.Table> tables() {
         return model.faces[model.used].tables;
     }
@@ -100,8 +104,8 @@ final class ModelTest {
             case 5 -> fillIn(n, itemOrNone(), item(), itemOrNone(), glyphNumber());
             case 6 -> fillIn(n, item(), item(), step());
             case 7 -> fillIn(n, item(), chance(4) ? Model.NONE : step(), chance(4) ? Model.NONE : step());
-            case 8 -> fillIn(n, item(), chance(2) ? Model.NONE : below(3), below(2), step(), step());
-            default -> fillIn(n, item(), below(2), step(), step());
+            case 8 -> fillIn(n, item(), chance(2) ? Model.NONE : below(3), markClass(), step(), step());
+            default -> fillIn(n, item(), markClass(), step(), step());
         }
         if (chance(60)) n[below(6)] = below(320) - 110;
         return n;
@@ -152,7 +156,7 @@ final class ModelTest {
         int glyph = glyphNumber();
         int which = below(4);
         if (which == 0) {
-            int its = chance(2) ? below(3) : chance(30) ? 4 : Model.NONE;
+            int its = chance(2) ? markClass() : chance(30) ? 4 : Model.NONE;
             same("setMark(" + glyph + ", " + its + ")", () -> real.setMark(glyph, its), () -> model.setMark(glyph, its));
         } else if (which == 1) {
             int width = below(105) - 1;
@@ -217,6 +221,7 @@ final class ModelTest {
             int at = i;
             Model.G g = row.get(i);
             same("glyph(" + at + ")", () -> real.glyph(at), () -> g.n);
+            same("glyphAnew(" + at + ")", () -> real.glyphAnew(at), () -> g.n);
             same("cluster(" + at + ")", () -> real.cluster(at), () -> g.cluster);
             same("place(" + at + ", 0)", () -> real.place(at, 0), () -> g.x);
             same("place(" + at + ", 1)", () -> real.place(at, 1), () -> g.height);
